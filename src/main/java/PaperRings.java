@@ -24,7 +24,7 @@ public final class PaperRings {
     private final Purse purse = new Purse();
     private final Dates dates = new Dates();
     private final Hearing hearing = new Hearing();
-    private final Mender mender = new Mender();
+    private final Mender mender = new Mender(now);
     private final Queues queues = new Queues();
 
     public PaperRings() {
@@ -223,7 +223,7 @@ public final class PaperRings {
         if (!isCrowd(persons) || !isPaper(paper) || i < -1) {
             return BAD;
         }
-        mender.begin(now, persons, paper);
+        mender.begin(persons, paper);
         Mender.search(mender, 0);
         if (!mender.found || i >= mender.most) {
             return NONE;
@@ -1028,16 +1028,19 @@ public final class PaperRings {
         final int[] best = new int[MOST_CHANGES];
         private final int[] changed = new int[MOST_CHANGES];
         private final int[] sorted = new int[MOST_CHANGES];
+        private final State state;
         private int changes;
-        private State state;
         private int persons;
         private int wanted;
         private int matters;
         private int outside;
         private int comesTo;
 
-        void begin(State rulesAndPersons, int crowd, int paper) {
+        Mender(State rulesAndPersons) {
             state = rulesAndPersons;
+        }
+
+        void begin(int crowd, int paper) {
             persons = crowd;
             wanted = paper;
             matters = state.rules.tiedTo(paper) & state.rules.offices;
