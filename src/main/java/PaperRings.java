@@ -132,7 +132,7 @@ public final class PaperRings {
         int all = together.has[person];
         int gone = 0;
         for (int paper = 0; paper < PAPERS; paper++) {
-            if (holds(all, paper) && !holds(now.alone(person, all & ~bit(paper), paper), paper)) {
+            if (holds(all, paper) && !together.leadsTo(now, now.sets, person, all & ~bit(paper), paper)) {
                 gone |= bit(paper);
             }
         }
@@ -143,7 +143,7 @@ public final class PaperRings {
         if (!isPerson(person) || !isPaper(paper) || what < 0 || what > 2) {
             return BAD;
         }
-        if (!opening.find(now, person, paper)) {
+        if (!opening.find(now, together, person, paper)) {
             return NONE;
         }
         if (what == 0) {
@@ -388,6 +388,8 @@ public final class PaperRings {
 
         int items = 0;
         int offices = 0;
+        /** The papers that some need wants another person to have. */
+        int lendable = 0;
         final int[] fee = new int[PAPERS];
         final int[] days = new int[PAPERS];
         final int[] good = new int[PAPERS];
@@ -404,12 +406,14 @@ public final class PaperRings {
         void clear() {
             items = 0;
             offices = 0;
+            lendable = 0;
             needs = 0;
         }
 
         void copyFrom(Rules other) {
             items = other.items;
             offices = other.offices;
+            lendable = other.lendable;
             needs = other.needs;
             System.arraycopy(other.fee, 0, fee, 0, PAPERS);
             System.arraycopy(other.days, 0, days, 0, PAPERS);
@@ -449,7 +453,7 @@ public final class PaperRings {
                 case 'g':
                     return many == 2 && numbers[1] <= OLDEST && addNeed('g', numbers[0], 0, numbers[1]);
                 case 'h':
-                    return many == 2 && isPaper(numbers[1]) && addNeed('h', numbers[0], bit(numbers[1]), 1);
+                    return many == 2 && addLent(numbers[0], numbers[1]);
                 case 'c':
                     return many == 2 && addDaily(numbers[0], numbers[1]);
                 default:
@@ -501,6 +505,14 @@ public final class PaperRings {
                 return false;
             }
             daily[paper] = persons;
+            return true;
+        }
+
+        private boolean addLent(int paper, int lent) {
+            if (!isPaper(lent) || !addNeed('h', paper, bit(lent), 1)) {
+                return false;
+            }
+            lendable |= bit(lent);
             return true;
         }
 
@@ -610,13 +622,16 @@ public final class PaperRings {
             return NONE;
         }
 
-        /** A paper and all that can ever matter for it: the searches leave out the others. */
-        int tiedTo(int paper) {
+        /**
+         * A paper and all that can ever matter for it: the searches leave out the others.
+         * What others have matters only where they get papers too (lending).
+         */
+        int tiedTo(int paper, boolean lending) {
             int tied = bit(paper);
             for (int step = 0; step < PAPERS; step++) {
                 int before = tied;
                 for (int need = 0; need < needs; need++) {
-                    if (tellsPapers(need) && holds(tied, owner[need])) {
+                    if ((lending || tellsPapers(need)) && holds(tied, owner[need])) {
                         tied |= papers[need];
                     }
                 }
@@ -671,13 +686,13 @@ public final class PaperRings {
         }
 
         /**
-         * What a person comes to by itself from a set on, others as they are at first.
+         * What a person comes to by itself, others as they are at first.
          * It ends with the wanted paper, since no caller looks further.
          */
-        int alone(int person, int set, int wanted) {
+        int alone(int person, int wanted) {
             int age = ages[person];
             int lent = lentTo(person);
-            int has = set;
+            int has = sets[person];
             for (int step = 0; step < PAPERS && !holds(has, wanted); step++) {
                 int more = has | rules.given(has, age, lent);
                 if (more == has) {
@@ -701,6 +716,9 @@ public final class PaperRings {
 
     /** What all persons reach together, round by round. */
     private static final class Together {
+        /** In each turn of all persons but the last a paper comes. */
+        private static final int MOST_LOOKS = PERSONS * (PERSONS * PAPERS + 1);
+
         final int[] has = new int[PERSONS];
         final int[] rounds = new int[PERSONS * PAPERS];
         private final int[] more = new int[PERSONS];
@@ -737,6 +755,31 @@ public final class PaperRings {
                 has[person] |= fresh;
             }
             return came;
+        }
+
+        /**
+         * Whether a person that begins with a set comes to a paper, the others beginning as told.
+         * What is reached in the end does not hang on the rounds, so who can see nothing new is passed over.
+         */
+        boolean leadsTo(State state, int[] others, int person, int set, int paper) {
+            System.arraycopy(others, 0, has, 0, PERSONS);
+            has[person] = set;
+            int stirred = ALL_PERSONS;
+            int one = person;
+            for (int look = 0; look < MOST_LOOKS && stirred != 0 && !holds(has[person], paper); look++) {
+                if (holds(stirred, one)) {
+                    int lent = unionWithout(has, one);
+                    int fresh = state.rules.given(has[one], state.ages[one], lent) & ~has[one];
+                    has[one] |= fresh;
+                    if (fresh == 0) {
+                        stirred &= ~bit(one);
+                    } else if ((fresh & state.rules.lendable) != 0) {
+                        stirred = ALL_PERSONS;
+                    }
+                }
+                one = one + 1 < PERSONS ? one + 1 : 0;
+            }
+            return holds(has[person], paper);
         }
     }
 
@@ -797,33 +840,40 @@ public final class PaperRings {
         }
     }
 
-    /** The fewest papers from outside by which one comes to a paper. */
+    /** The fewest papers from outside by which one comes to a paper, the others getting papers too. */
     private static final class Opening {
+        private static final int MOST_SHUT = 64;
+
         int least;
         int rivals;
+        /** What all reach without a gift: whatever is given, they come to that, so each try begins there. */
+        private final int[] reached = new int[PERSONS];
+        /** Sets that do not open: no part of one opens either, and need not be tried. */
+        private final int[] shut = new int[MOST_SHUT];
+        private int shutMany = 0;
 
-        boolean find(State state, int person, int paper) {
-            int first = state.sets[person];
-            int reached = state.alone(person, first, paper);
+        boolean find(State state, Together together, int person, int paper) {
+            together.run(state);
+            System.arraycopy(together.has, 0, reached, 0, PERSONS);
             least = 0;
             rivals = 1;
-            if (holds(reached, paper)) {
+            if (holds(reached[person], paper)) {
                 return true;
             }
             // What is reached anyhow and what does not matter is in no smallest gift.
-            int gifts = state.rules.tiedTo(paper) & ~reached & ~bit(paper);
-            if (!holds(state.alone(person, first | gifts, paper), paper)) {
+            int gifts = state.rules.tiedTo(paper, true) & ~reached[person] & ~bit(paper);
+            if (!together.leadsTo(state, reached, person, reached[person] | gifts, paper)) {
                 return false;
             }
             rivals = 0;
+            shutMany = 0;
             for (int many = 1; many <= PAPERS && rivals == 0; many++) {
-                tryGifts(state, person, paper, gifts, many);
+                tryGifts(state, together, person, paper, gifts, many);
             }
             return rivals > 0;
         }
 
-        private void tryGifts(State state, int person, int paper, int gifts, int many) {
-            int first = state.sets[person];
+        private void tryGifts(State state, Together together, int person, int paper, int gifts, int many) {
             int gift = 0;
             for (int i = 0; i <= ALL_PAPERS; i++) {
                 // The next higher set within gifts; behind the last one it is 0 again.
@@ -831,12 +881,38 @@ public final class PaperRings {
                 if (gift == 0) {
                     break;
                 }
-                boolean fits = Integer.bitCount(gift) == many;
-                if (fits && holds(state.alone(person, first | gift, paper), paper)) {
+                if (Integer.bitCount(gift) != many || isShut(gift)) {
+                    continue;
+                }
+                if (together.leadsTo(state, reached, person, reached[person] | gift, paper)) {
                     least = rivals == 0 ? gift : least;
                     rivals++;
+                } else if (shutMany < MOST_SHUT) {
+                    shut[shutMany] = widened(state, together, person, paper, gifts);
+                    shutMany++;
                 }
             }
+        }
+
+        private boolean isShut(int gift) {
+            for (int i = 0; i < shutMany; i++) {
+                if ((gift & ~shut[i]) == 0) {
+                    return true;
+                }
+            }
+            return false;
+        }
+
+        /** What the try before came to, with as many gifts more as still do not open. */
+        private int widened(State state, Together together, int person, int paper, int gifts) {
+            int wide = together.has[person];
+            for (int more = 0; more < PAPERS; more++) {
+                boolean other = holds(gifts & ~wide, more);
+                if (other && !together.leadsTo(state, reached, person, wide | bit(more), paper)) {
+                    wide = together.has[person];
+                }
+            }
+            return wide;
         }
     }
 
@@ -849,7 +925,7 @@ public final class PaperRings {
         boolean find(State state, int person, int paper) {
             int first = state.sets[person];
             int lent = state.lentTo(person);
-            int matters = state.rules.tiedTo(paper);
+            int matters = state.rules.tiedTo(paper, false);
             forget();
             note(first);
             boolean found = false;
@@ -1043,7 +1119,7 @@ public final class PaperRings {
         void begin(int crowd, int paper) {
             persons = crowd;
             wanted = paper;
-            matters = state.rules.tiedTo(paper) & state.rules.offices;
+            matters = state.rules.tiedTo(paper, false) & state.rules.offices;
             found = false;
             most = MOST_CHANGES;
             changes = 0;
@@ -1072,7 +1148,7 @@ public final class PaperRings {
         private boolean findOutside() {
             for (int person = 0; person < PERSONS; person++) {
                 if (holds(persons, person)) {
-                    int has = state.alone(person, state.sets[person], wanted);
+                    int has = state.alone(person, wanted);
                     if (!holds(has, wanted)) {
                         outside = person;
                         comesTo = has;

@@ -147,11 +147,12 @@ public final class OracleTest {
             return has;
         }
 
-        int[][] roundsOfAll() {
+        /** The rounds of all persons' papers, if they begin with these sets. */
+        int[][] roundsOfAll(int[] first) {
             int[][] rounds = new int[4][12];
             for (int i = 0; i < 4; i++) {
                 for (int p = 0; p < 12; p++) {
-                    rounds[i][p] = (sets[i] >> p & 1) == 1 ? 0 : NONE;
+                    rounds[i][p] = (first[i] >> p & 1) == 1 ? 0 : NONE;
                 }
             }
             for (int round = 1;; round++) {
@@ -184,7 +185,14 @@ public final class OracleTest {
         }
 
         Set<Integer> reached(int person) {
-            int[] r = roundsOfAll()[person];
+            return reached(person, sets[person]);
+        }
+
+        /** What a person reaches together with the others, if it begins with a set, the others as they are at first. */
+        Set<Integer> reached(int person, int set) {
+            int[] first = sets.clone();
+            first[person] = set;
+            int[] r = roundsOfAll(first)[person];
             Set<Integer> s = new HashSet<>();
             for (int p = 0; p < 12; p++) {
                 if (r[p] != NONE) {
@@ -237,9 +245,7 @@ public final class OracleTest {
             Set<Integer> all = reached(person);
             int bits = 0;
             for (int p : all) {
-                Set<Integer> less = new HashSet<>(all);
-                less.remove(p);
-                if (!byItself(person, less, null).contains(p)) {
+                if (!reached(person, bitsOf(all) & ~(1 << p)).contains(p)) {
                     bits |= 1 << p;
                 }
             }
@@ -248,22 +254,20 @@ public final class OracleTest {
 
         /** The least set, how many papers, how many sets; null: none. */
         int[] opened(int person, int paper) {
-            int fewest = 99, least = 0, many = 0;
-            for (int gift = 0; gift < 4096; gift++) {
-                int n = Integer.bitCount(gift);
-                if ((gift >> paper & 1) == 1 || n > fewest) {
-                    continue;
-                }
-                if (byItself(person, setOf(sets[person] | gift), null).contains(paper)) {
-                    if (n < fewest) {
-                        fewest = n;
+            for (int n = 0; n <= 12; n++) {
+                int least = 0, many = 0;
+                for (int gift = 4095; gift >= 0; gift--) {
+                    if ((gift >> paper & 1) == 0 && Integer.bitCount(gift) == n
+                        && reached(person, sets[person] | gift).contains(paper)) {
                         least = gift;
-                        many = 0;
+                        many++;
                     }
-                    many++;
+                }
+                if (many > 0) {
+                    return new int[] {least, n, many};
                 }
             }
-            return fewest == 99 ? null : new int[] {least, fewest, many};
+            return null;
         }
 
         int[] cheapest(int person, int paper) {
@@ -538,10 +542,15 @@ public final class OracleTest {
         }
         // Needs of the next paper make long rings, which are rare otherwise.
         boolean chain = r.nextInt(6) == 0;
+        // Ways that go through several persons and back are rare too.
+        boolean lending = r.nextInt(3) == 0;
         int many = r.nextInt(most + 1);
         for (int i = 0; i < many && !told.isEmpty(); i++) {
             int p = told.get(r.nextInt(told.size()));
             String item = chain ? "a" + p + "," + (p + 1 + r.nextInt(2)) % papers + ";" : randomItem(r, p, papers);
+            if (lending && r.nextInt(3) == 0) {
+                item = "h" + p + "," + (chain ? p + 1 : r.nextInt(papers)) % papers + ";";
+            }
             if (b.length() + item.length() <= 300) {
                 b.append(item);
             }
@@ -733,7 +742,7 @@ public final class OracleTest {
                 due("reach(" + i + ")", x.reach(i), bitsOf(w.reached(i)), story);
                 break;
             case 4:
-                due("round(" + i + ", " + p + ")", x.round(i, p), w.roundsOfAll()[i][p], story);
+                due("round(" + i + ", " + p + ")", x.round(i, p), w.roundsOfAll(w.sets)[i][p], story);
                 break;
             case 5: case 6:
                 List<Integer> ring = w.ring(i);

@@ -318,9 +318,25 @@ public final class PromisesTest {
         due(13, "paper 0", zero.back(0), 1);
         PaperRings lent = laid("o0,0,0,0;o1,0,0,0;o2,0,0,0;a0,3;h1,0;h2,1;");
         lent.person(0, 8, 0);
-        due(13, "others are as at first: nobody has 1", lent.back(0), 8 + 4);
+        due(13, "others get 1 again, by what it still has", lent.back(0), 8);
+        due(13, "lent one another, 1 and 2 come again", lent.back(1), 0);
         lent.person(1, 2, 0);
         due(13, "one has 1 at first", lent.back(0), 8);
+    }
+
+    private static void backsLent() {
+        PaperRings ring = laid("o0,0,0,0;h0,1;o1,0,0,0;h1,0;");
+        ring.person(0, 1, 0);
+        due(10, "both", ring.reach(0), 3);
+        due(13, "forth and back again by the other paper", ring.back(0), 0);
+        PaperRings young = laid("o0,0,0,0;h0,1;o1,0,0,0;h1,0;g1,5;");
+        young.person(0, 1, 4);
+        young.person(1, 0, 5);
+        due(10, "the other got 1", young.reach(1), 2);
+        due(13, "others begin as at first: 1 was got by what is gone", young.back(0), 1);
+        young.person(2, 2, 0);
+        due(13, "one has 1 at first", young.back(0), 0);
+        due(13, "what it has at first itself is gone too", young.back(2), 2);
     }
 
     private static void openings() {
@@ -350,9 +366,37 @@ public final class PromisesTest {
         due(14, "eleven papers", eleven.opened(0, 0, 1), 11);
         PaperRings lent = laid("o0,0,0,0;o1,0,0,0;h1,0;o2,0,0,0;n2,2,1,3,4;");
         due(14, "reached together", lent.round(0, 1), 2);
-        due(14, "others are as at first", lent.opened(0, 2, 1), 2);
-        lent.person(1, 1, 0);
-        due(14, "others are as at first", lent.opened(0, 2, 1), 1);
+        due(14, "what comes by others is not given", lent.opened(0, 2, 0), 8);
+        due(14, "what comes by others is not given", lent.opened(0, 2, 1), 1);
+        due(14, "what comes by others is not given", lent.opened(0, 2, 2), 2);
+        due(14, "reached together: the empty set", lent.opened(0, 1, 0), 0);
+        due(14, "reached together: one set", lent.opened(0, 1, 2), 1);
+    }
+
+    private static void opened(String told, PaperRings x, int person, int paper, int least, int rivals) {
+        due(14, told + ", the set", x.opened(person, paper, 0), least);
+        due(14, told + ", how many papers", x.opened(person, paper, 1), least == NONE ? NONE : Integer.bitCount(least));
+        due(14, told + ", how many sets", x.opened(person, paper, 2), rivals);
+    }
+
+    private static void openingsLent() {
+        PaperRings two = laid("o0,0,0,0;h0,1;o1,0,0,0;h1,2;o2,0,0,0;h2,3;");
+        opened("given to lend", two, 0, 0, 4, 2);
+        opened("given to lend", two, 3, 1, 8, 1);
+        PaperRings ring = laid("o0,0,0,0;h0,1;o1,0,0,0;h1,0;");
+        opened("forth and back, not that paper itself", ring, 0, 0, 2, 1);
+        PaperRings more = laid("o0,0,0,0;a0,1,2;o1,0,0,0;h1,3;o2,0,0,0;h2,4;o3,0,0,0;h3,5;o4,0,0,0;h4,5;");
+        opened("one paper lent for two", more, 1, 0, 32, 1);
+        PaperRings old = laid("o0,0,0,0;h0,1;o1,0,0,0;h1,2;g1,9;");
+        opened("nobody is old enough", old, 0, 0, NONE, NONE);
+        old.person(3, 0, 9);
+        opened("another is old enough", old, 0, 0, 4, 1);
+        opened("the old one itself lends to nobody", old, 3, 0, NONE, NONE);
+        due(14, "nothing is given in truth", old.reach(0), 0);
+        due(14, "nothing is given in truth", old.person(0, 0, 0), 0);
+        PaperRings others = laid("o0,0,0,0;a0,1;o1,0,0,0;g1,9;");
+        others.person(1, 0, 9);
+        opened("what others reach may still be given", others, 0, 0, 2, 1);
     }
 
     private static void cheap() {
@@ -696,7 +740,9 @@ public final class PromisesTest {
         reached();
         rings();
         backs();
+        backsLent();
         openings();
+        openingsLent();
         cheap();
         soon();
         plans();
