@@ -613,7 +613,7 @@ public final class OracleTest {
         return b.length() > 300 ? b.substring(0, 300) : b.toString();
     }
 
-    private static void writeAll(PaperRings x, String text, StringBuilder story) {
+    private static void writeAll(Counted x, String text, StringBuilder story) {
         int at = 0;
         while (at < text.length()) {
             int n = Math.min(8, text.length() - at);
@@ -630,7 +630,7 @@ public final class OracleTest {
     private static void oneRun(long seed) {
         Random r = new Random(seed);
         StringBuilder story = new StringBuilder("seed " + seed + "\n");
-        PaperRings x = new PaperRings();
+        Counted x = new Counted();
         World w = new World();
         List<World> kept = new ArrayList<>();
         int papers = r.nextInt(3) == 0 ? 12 : 3 + r.nextInt(6);
@@ -674,7 +674,7 @@ public final class OracleTest {
         }
     }
 
-    private static World change(PaperRings x, World w, List<World> kept, Random r, int papers, StringBuilder story) {
+    private static World change(Counted x, World w, List<World> kept, Random r, int papers, StringBuilder story) {
         int person = r.nextInt(4);
         switch (r.nextInt(9)) {
             case 0:
@@ -715,7 +715,7 @@ public final class OracleTest {
         return w;
     }
 
-    private static void ask(PaperRings x, World w, Random r, int papers, StringBuilder story) {
+    private static void ask(Counted x, World w, Random r, int papers, StringBuilder story) {
         int i = r.nextInt(4);
         int p = r.nextInt(papers);
         int set = r.nextInt(1 << papers);

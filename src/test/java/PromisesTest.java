@@ -12,15 +12,13 @@ public final class PromisesTest {
         }
     }
 
-    private static void rewrite(PaperRings x, String text) {
+    private static void rewrite(Counted x, String text) {
         x.wipe();
-        for (int i = 0; i < text.length(); i++) {
-            x.write(1, text.charAt(i));
-        }
+        x.writeAll(text);
     }
 
-    private static PaperRings laid(String text) {
-        PaperRings x = new PaperRings();
+    private static Counted laid(String text) {
+        Counted x = new Counted();
         rewrite(x, text);
         due(6, "lay() of " + text, x.lay() >= 0 ? 1 : 0, 1);
         return x;
@@ -31,7 +29,7 @@ public final class PromisesTest {
     }
 
     private static void newObject() {
-        PaperRings x = new PaperRings();
+        Counted x = new Counted();
         for (int what = 0; what < 5; what++) {
             due(1, "count(" + what + ")", x.count(what), 0);
         }
@@ -45,12 +43,12 @@ public final class PromisesTest {
             due(1, "person", x.person(person, 1, 1), 0);
         }
         due(1, "restore()", x.restore(), NO);
-        PaperRings young = laid("o0,0,0,0;g0,0;o1,0,0,0;g1,1;");
+        Counted young = laid("o0,0,0,0;g0,0;o1,0,0,0;g1,1;");
         due(1, "age 0 at first", young.reach(3), 1);
     }
 
     private static void persons() {
-        PaperRings x = laid("o0,0,0,0;g0,120;");
+        Counted x = laid("o0,0,0,0;g0,120;");
         due(2, "person(0, 4094, 120)", x.person(0, 4094, 120), 0);
         due(2, "age 120 holds", x.may(0, 0, 0), 1);
         due(2, "person below", x.person(-1, 0, 0), BAD);
@@ -66,7 +64,7 @@ public final class PromisesTest {
     }
 
     private static void writing() {
-        PaperRings x = new PaperRings();
+        Counted x = new Counted();
         due(3, "write(0, 0)", x.write(0, 0), BAD);
         due(3, "write(9, 0)", x.write(9, 0), BAD);
         due(3, "write(-1, 0)", x.write(-1, 0), BAD);
@@ -93,7 +91,7 @@ public final class PromisesTest {
     }
 
     private static void wiping() {
-        PaperRings x = laid("o3,7,0,0;");
+        Counted x = laid("o3,7,0,0;");
         due(4, "wipe()", x.wipe(), 9);
         due(4, "wipe()", x.wipe(), 0);
         due(4, "fault()", x.fault(), NONE);
@@ -119,18 +117,20 @@ public final class PromisesTest {
     };
 
     private static void faults() {
-        PaperRings x = new PaperRings();
         for (String text : SOUND) {
-            rewrite(x, text);
+            Counted x = new Counted();
+            x.writeAll(text);
             due(5, "fault() of " + text, x.fault(), NONE);
         }
         for (String item : UNSOUND) {
+            Counted x = new Counted();
             rewrite(x, "o0,1,1,1;" + item);
             due(5, "fault() behind an office: " + item, x.fault(), 9);
             due(6, "lay()", x.lay(), NO);
             rewrite(x, "o0,1,1,1;" + item + "o9,9,9,9;");
             due(5, "fault() ahead of an office: " + item, x.fault(), 9);
         }
+        Counted x = new Counted();
         rewrite(x, "o0,1,1,1;c0,1;c0,1;");
         due(5, "c twice", x.fault(), 14);
         rewrite(x, "a0,1;o0,1,1,1;");
@@ -146,7 +146,7 @@ public final class PromisesTest {
     }
 
     private static void laying() {
-        PaperRings x = laid("o0,1,2,3;g0,4;");
+        Counted x = laid("o0,1,2,3;g0,4;");
         rewrite(x, "o1,1,1,1;z");
         due(6, "lay()", x.lay(), NO);
         due(6, "what was LAID stays", x.office(0, 1), 2);
@@ -169,7 +169,7 @@ public final class PromisesTest {
     }
 
     private static void offices() {
-        PaperRings x = laid("o11,999,99,998;a11,0;c11,9;n11,1,0;g11,1;h11,1;o0,0,0,0;");
+        Counted x = laid("o11,999,99,998;a11,0;c11,9;n11,1,0;g11,1;h11,1;o0,0,0,0;");
         int[] want = {999, 99, 998, 9, 4};
         int[] plain = {0, 0, 0, 1, 0};
         for (int what = 0; what < 5; what++) {
@@ -184,7 +184,7 @@ public final class PromisesTest {
     }
 
     private static void mayHave() {
-        PaperRings x = laid("o0,0,0,0;a0,1,2;n0,2,3,4,5;g0,30;h0,6;o1,0,0,0;o2,0,0,0;a2,2;");
+        Counted x = laid("o0,0,0,0;a0,1,2;n0,2,3,4,5;g0,30;h0,6;o1,0,0,0;o2,0,0,0;a2,2;");
         x.person(0, 0, 30);
         x.person(1, 64, 0);
         int all = 2 + 4 + 8 + 16;
@@ -211,7 +211,7 @@ public final class PromisesTest {
     }
 
     private static void lacks() {
-        PaperRings x = laid("o0,0,0,0;a0,1,2;n0,2,3,4,5;c0,2;g0,30;h0,6;o1,0,0,0;a1,0;");
+        Counted x = laid("o0,0,0,0;a0,1,2;n0,2,3,4,5;c0,2;g0,30;h0,6;o1,0,0,0;a1,0;");
         due(9, "all four", x.lack(0, 0, 0), 2 + 4 + 16 + 32);
         due(9, "a holds", x.lack(0, 6, 0), 4 + 16 + 32);
         due(9, "n holds", x.lack(0, 40, 0), 2 + 16 + 32);
@@ -227,17 +227,17 @@ public final class PromisesTest {
         due(9, "paper", x.lack(0, 0, 12), BAD);
         due(9, "paper", x.lack(0, 0, -1), BAD);
         due(9, "person", x.lack(-1, 0, 0), BAD);
-        PaperRings many = laid("o0,0,0,0;" + times("g0,1;", 58));
+        Counted many = laid("o0,0,0,0;" + times("g0,1;", 58));
         due(9, "bits 1 to 31", many.lack(0, 0, 0), -2);
-        PaperRings late = laid("o0,0,0,0;" + times("g0,0;", 30) + "g0,1;");
+        Counted late = laid("o0,0,0,0;" + times("g0,0;", 30) + "g0,1;");
         due(9, "bit 31", late.lack(0, 0, 0), Integer.MIN_VALUE);
-        PaperRings later = laid("o0,0,0,0;" + times("g0,0;", 31) + "g0,1;");
+        Counted later = laid("o0,0,0,0;" + times("g0,0;", 31) + "g0,1;");
         due(9, "ITEM 32 is not told", later.lack(0, 0, 0), 0);
         due(9, "and lacks all the same", later.may(0, 0, 0), 0);
     }
 
     private static void reached() {
-        PaperRings x = laid("o0,0,0,0;o1,0,0,0;o2,0,0,0;a0,3;h1,0;h2,1;");
+        Counted x = laid("o0,0,0,0;o1,0,0,0;o2,0,0,0;a0,3;h1,0;h2,1;");
         x.person(0, 8, 0);
         due(10, "lent one another", x.reach(0), 8 + 1 + 4);
         due(10, "lent one another", x.reach(1), 2 + 4);
@@ -256,7 +256,7 @@ public final class PromisesTest {
         due(11, "paper", x.round(0, -1), BAD);
         due(10, "what was had at first is not changed", x.person(0, 0, 0), 8);
         due(10, "nobody has 3", x.reach(1), 0);
-        PaperRings chain = laid("o0,0,0,0;o1,0,0,0;o2,0,0,0;o3,0,0,0;a1,0;a2,1;n3,2,1,2,9;");
+        Counted chain = laid("o0,0,0,0;o1,0,0,0;o2,0,0,0;o3,0,0,0;a1,0;a2,1;n3,2,1,2,9;");
         due(11, "0", chain.round(2, 0), 1);
         due(11, "1", chain.round(2, 1), 2);
         due(11, "2", chain.round(2, 2), 3);
@@ -265,7 +265,7 @@ public final class PromisesTest {
     }
 
     private static void rings() {
-        PaperRings x = laid("o0,0,0,0;o1,0,0,0;o2,0,0,0;o3,0,0,0;o4,0,0,0;a0,1;a1,2;a2,0;");
+        Counted x = laid("o0,0,0,0;o1,0,0,0;o2,0,0,0;o3,0,0,0;o4,0,0,0;a0,1;a1,2;a2,0;");
         due(12, "three", x.ring(0, -1), 3);
         due(12, "first", x.ring(0, 0), 0);
         due(12, "second", x.ring(0, 1), 1);
@@ -279,27 +279,27 @@ public final class PromisesTest {
         due(12, "who is in knows no ring", x.ring(0, 0), NONE);
         due(12, "others do", x.ring(1, -1), 3);
 
-        PaperRings two = laid("o0,0,0,0;o1,0,0,0;o2,0,0,0;o5,0,0,0;o7,0,0,0;a2,5;a5,2;a1,7;n7,1,1,0;a0,2,5,1;g0,9;");
+        Counted two = laid("o0,0,0,0;o1,0,0,0;o2,0,0,0;o5,0,0,0;o7,0,0,0;a2,5;a5,2;a1,7;n7,1,1,0;a0,2,5,1;g0,9;");
         due(12, "two of several", two.ring(0, -1), 2);
         due(12, "the lowest first", two.ring(0, 0), 1);
         due(12, "its second", two.ring(0, 1), 7);
-        PaperRings second = laid("o0,0,0,0;o2,0,0,0;o3,0,0,0;a0,3,2;a2,0;a3,0;");
+        Counted second = laid("o0,0,0,0;o2,0,0,0;o3,0,0,0;a0,3,2;a2,0;a3,0;");
         due(12, "the lowest second", second.ring(0, 1), 2);
-        PaperRings both = laid("o0,0,0,0;o1,0,0,0;o2,0,0,0;a0,2;a0,1;a2,0;");
+        Counted both = laid("o0,0,0,0;o1,0,0,0;o2,0,0,0;a0,2;a0,1;a2,0;");
         due(12, "by the first of two NEEDS", both.ring(0, 1), 2);
         rewrite(both, "o0,0,0,0;o2,0,0,0;a2,0;g0,1;");
         both.lay();
         due(12, "nothing is left of the last TEXT", both.ring(0, -1), NONE);
-        PaperRings self = laid("o0,0,0,0;o1,0,0,0;o4,0,0,0;a0,1;a1,0;n4,1,4,5;");
+        Counted self = laid("o0,0,0,0;o1,0,0,0;o4,0,0,0;a0,1;a1,0;n4,1,4,5;");
         due(12, "one by itself is fewer", self.ring(0, -1), 1);
         due(12, "one by itself", self.ring(0, 0), 4);
-        PaperRings held = laid("o0,0,0,0;o1,0,0,0;o2,0,0,0;n0,1,1,2;g0,50;a1,0;");
+        Counted held = laid("o0,0,0,0;o1,0,0,0;o2,0,0,0;n0,1,1,2;g0,50;a1,0;");
         due(12, "a NEED that holds by what is REACHED ties none", held.ring(0, -1), NONE);
-        PaperRings age = laid("o0,0,0,0;o1,0,0,0;a0,1;g1,9;h1,0;");
+        Counted age = laid("o0,0,0,0;o1,0,0,0;a0,1;g1,9;h1,0;");
         due(12, "g and h make no ring", age.ring(0, -1), NONE);
-        PaperRings dead = laid("o0,0,0,0;a0,1;");
+        Counted dead = laid("o0,0,0,0;a0,1;");
         due(12, "a paper without office ends the way", dead.ring(0, -1), NONE);
-        PaperRings twelve = laid("o0,0,0,0;o1,0,0,0;o2,0,0,0;o3,0,0,0;o4,0,0,0;o5,0,0,0;o6,0,0,0;o7,0,0,0;o8,0,0,0;"
+        Counted twelve = laid("o0,0,0,0;o1,0,0,0;o2,0,0,0;o3,0,0,0;o4,0,0,0;o5,0,0,0;o6,0,0,0;o7,0,0,0;o8,0,0,0;"
             + "o9,0,0,0;o10,0,0,0;o11,0,0,0;a0,11;a11,10;a10,9;a9,8;a8,7;a7,6;a6,5;a5,4;a4,3;a3,2;a2,1;a1,0;");
         due(12, "twelve", twelve.ring(0, -1), 12);
         due(12, "the last of twelve", twelve.ring(0, 11), 1);
@@ -307,16 +307,16 @@ public final class PromisesTest {
     }
 
     private static void backs() {
-        PaperRings x = laid("o0,0,0,0;o1,0,0,0;a0,1;a1,0;o2,0,0,0;o3,0,0,0;a3,3;");
+        Counted x = laid("o0,0,0,0;o1,0,0,0;a0,1;a1,0;o2,0,0,0;o3,0,0,0;a3,3;");
         x.person(0, 1 + 8 + 32, 0);
         due(13, "each of two gives the other again", x.back(0), 8 + 32);
         due(13, "what needs nothing comes again", x.back(1), 0);
         due(13, "person", x.back(4), BAD);
         due(13, "person", x.back(-1), BAD);
-        PaperRings zero = laid("o1,0,0,0;a1,0;");
+        Counted zero = laid("o1,0,0,0;a1,0;");
         zero.person(0, 1, 0);
         due(13, "paper 0", zero.back(0), 1);
-        PaperRings lent = laid("o0,0,0,0;o1,0,0,0;o2,0,0,0;a0,3;h1,0;h2,1;");
+        Counted lent = laid("o0,0,0,0;o1,0,0,0;o2,0,0,0;a0,3;h1,0;h2,1;");
         lent.person(0, 8, 0);
         due(13, "others get 1 again, by what it still has", lent.back(0), 8);
         due(13, "lent one another, 1 and 2 come again", lent.back(1), 0);
@@ -325,11 +325,11 @@ public final class PromisesTest {
     }
 
     private static void backsLent() {
-        PaperRings ring = laid("o0,0,0,0;h0,1;o1,0,0,0;h1,0;");
+        Counted ring = laid("o0,0,0,0;h0,1;o1,0,0,0;h1,0;");
         ring.person(0, 1, 0);
         due(10, "both", ring.reach(0), 3);
         due(13, "forth and back again by the other paper", ring.back(0), 0);
-        PaperRings young = laid("o0,0,0,0;h0,1;o1,0,0,0;h1,0;g1,5;");
+        Counted young = laid("o0,0,0,0;h0,1;o1,0,0,0;h1,0;g1,5;");
         young.person(0, 1, 4);
         young.person(1, 0, 5);
         due(10, "the other got 1", young.reach(1), 2);
@@ -340,7 +340,7 @@ public final class PromisesTest {
     }
 
     private static void openings() {
-        PaperRings x = laid("o0,0,0,0;n0,2,1,2,3;o5,0,0,0;a5,5;o6,0,0,0;g6,9;o7,0,0,0;a7,0,8;");
+        Counted x = laid("o0,0,0,0;n0,2,1,2,3;o5,0,0,0;a5,5;o6,0,0,0;g6,9;o7,0,0,0;a7,0,8;");
         due(14, "the least bits", x.opened(0, 0, 0), 6);
         due(14, "how many papers", x.opened(0, 0, 1), 2);
         due(14, "how many sets", x.opened(0, 0, 2), 3);
@@ -361,10 +361,10 @@ public final class PromisesTest {
         due(14, "person", x.opened(-1, 0, 0), BAD);
         due(14, "paper", x.opened(0, 12, 0), BAD);
         due(14, "paper", x.opened(0, -1, 0), BAD);
-        PaperRings eleven = laid("o0,0,0,0;a0,1,2,3,4,5,6;a0,7,8,9,10,11;");
+        Counted eleven = laid("o0,0,0,0;a0,1,2,3,4,5,6;a0,7,8,9,10,11;");
         due(14, "eleven papers", eleven.opened(0, 0, 0), 4094);
         due(14, "eleven papers", eleven.opened(0, 0, 1), 11);
-        PaperRings lent = laid("o0,0,0,0;o1,0,0,0;h1,0;o2,0,0,0;n2,2,1,3,4;");
+        Counted lent = laid("o0,0,0,0;o1,0,0,0;h1,0;o2,0,0,0;n2,2,1,3,4;");
         due(14, "reached together", lent.round(0, 1), 2);
         due(14, "what comes by others is not given", lent.opened(0, 2, 0), 8);
         due(14, "what comes by others is not given", lent.opened(0, 2, 1), 1);
@@ -373,34 +373,34 @@ public final class PromisesTest {
         due(14, "reached together: one set", lent.opened(0, 1, 2), 1);
     }
 
-    private static void opened(String told, PaperRings x, int person, int paper, int least, int rivals) {
+    private static void opened(String told, Counted x, int person, int paper, int least, int rivals) {
         due(14, told + ", the set", x.opened(person, paper, 0), least);
         due(14, told + ", how many papers", x.opened(person, paper, 1), least == NONE ? NONE : Integer.bitCount(least));
         due(14, told + ", how many sets", x.opened(person, paper, 2), rivals);
     }
 
     private static void openingsLent() {
-        PaperRings two = laid("o0,0,0,0;h0,1;o1,0,0,0;h1,2;o2,0,0,0;h2,3;");
+        Counted two = laid("o0,0,0,0;h0,1;o1,0,0,0;h1,2;o2,0,0,0;h2,3;");
         opened("given to lend", two, 0, 0, 4, 2);
         opened("given to lend", two, 3, 1, 8, 1);
-        PaperRings ring = laid("o0,0,0,0;h0,1;o1,0,0,0;h1,0;");
+        Counted ring = laid("o0,0,0,0;h0,1;o1,0,0,0;h1,0;");
         opened("forth and back, not that paper itself", ring, 0, 0, 2, 1);
-        PaperRings more = laid("o0,0,0,0;a0,1,2;o1,0,0,0;h1,3;o2,0,0,0;h2,4;o3,0,0,0;h3,5;o4,0,0,0;h4,5;");
+        Counted more = laid("o0,0,0,0;a0,1,2;o1,0,0,0;h1,3;o2,0,0,0;h2,4;o3,0,0,0;h3,5;o4,0,0,0;h4,5;");
         opened("one paper lent for two", more, 1, 0, 32, 1);
-        PaperRings old = laid("o0,0,0,0;h0,1;o1,0,0,0;h1,2;g1,9;");
+        Counted old = laid("o0,0,0,0;h0,1;o1,0,0,0;h1,2;g1,9;");
         opened("nobody is old enough", old, 0, 0, NONE, NONE);
         old.person(3, 0, 9);
         opened("another is old enough", old, 0, 0, 4, 1);
         opened("the old one itself lends to nobody", old, 3, 0, NONE, NONE);
         due(14, "nothing is given in truth", old.reach(0), 0);
         due(14, "nothing is given in truth", old.person(0, 0, 0), 0);
-        PaperRings others = laid("o0,0,0,0;a0,1;o1,0,0,0;g1,9;");
+        Counted others = laid("o0,0,0,0;a0,1;o1,0,0,0;g1,9;");
         others.person(1, 0, 9);
         opened("what others reach may still be given", others, 0, 0, 2, 1);
     }
 
     private static void cheap() {
-        PaperRings x = laid("o0,1,0,0;o1,1,0,0;o2,1,0,0;o3,3,0,0;o4,5,0,0;o5,3,0,0;a0,1,2;n1,1,3,4;n2,1,4,5;");
+        Counted x = laid("o0,1,0,0;o1,1,0,0;o2,1,0,0;o3,3,0,0;o4,5,0,0;o5,3,0,0;a0,1,2;n1,1,3,4;n2,1,4,5;");
         due(15, "one paper serves twice", x.cheapest(0, 0, 0), 8);
         due(15, "the set", x.cheapest(0, 0, 1), 23);
         due(15, "FIRST", x.cheapest(0, 0, 2), 4);
@@ -421,10 +421,10 @@ public final class PromisesTest {
         due(15, "person", x.cheapest(-1, 0, 0), BAD);
         due(15, "paper", x.cheapest(0, 12, 0), BAD);
         due(15, "paper", x.cheapest(0, -1, 0), BAD);
-        PaperRings tie = laid("o0,1,0,0;o1,3,0,0;o2,2,0,0;o3,1,0,0;n0,1,1,2;a2,3;");
+        Counted tie = laid("o0,1,0,0;o1,3,0,0;o2,2,0,0;o3,1,0,0;n0,1,1,2;a2,3;");
         due(15, "like fees", tie.cheapest(0, 0, 0), 4);
         due(15, "the least bits", tie.cheapest(0, 0, 1), 3);
-        PaperRings free = laid("o0,0,0,0;o1,0,0,0;a1,0;");
+        Counted free = laid("o0,0,0,0;o1,0,0,0;a1,0;");
         due(15, "FIRST is 0", free.cheapest(0, 1, 2), 0);
         free.person(0, 1, 0);
         due(15, "a had paper that it MAY HAVE is not FIRST", free.cheapest(0, 1, 2), 1);
@@ -432,14 +432,14 @@ public final class PromisesTest {
         free.lay();
         free.person(0, 0, 0);
         due(15, "nothing is left of the last TEXT", free.cheapest(0, 0, 0), NONE);
-        PaperRings lent = laid("o0,2,0,0;o1,3,0,0;h1,0;");
+        Counted lent = laid("o0,2,0,0;o1,3,0,0;h1,0;");
         due(15, "others must have it at first", lent.cheapest(0, 1, 0), NONE);
         lent.person(3, 1, 0);
         due(15, "another has it at first", lent.cheapest(0, 1, 0), 3);
     }
 
     private static void soon() {
-        PaperRings x = laid("o0,0,5,1;o1,0,9,1;o2,0,0,0;o3,0,7,0;n3,2,0,1,2;o4,0,1,0;a4,0,1;a4,2;o5,0,1,0;g5,9;h5,11;");
+        Counted x = laid("o0,0,5,1;o1,0,9,1;o2,0,0,0;o3,0,7,0;n3,2,0,1,2;o4,0,1,0;a4,0,1;a4,2;o5,0,1,0;g5,9;h5,11;");
         due(16, "no NEED", x.soonest(0, 0), 5);
         due(16, "no DAYS", x.soonest(0, 2), 0);
         due(16, "the second of three", x.soonest(0, 3), 12);
@@ -456,15 +456,15 @@ public final class PromisesTest {
         due(16, "person", x.soonest(-1, 0), BAD);
         due(16, "paper", x.soonest(0, 12), BAD);
         due(16, "paper", x.soonest(0, -1), BAD);
-        PaperRings lent = laid("o0,0,2,0;o1,0,3,0;h1,0;");
+        Counted lent = laid("o0,0,2,0;o1,0,3,0;h1,0;");
         due(16, "others must have it at first", lent.soonest(0, 1), NONE);
-        PaperRings two = laid("o0,0,9,0;n0,1,1,2;o1,0,50,0;o2,0,1,0;a2,3;o3,0,1,0;o4,0,0,0;a4,0,1;");
+        Counted two = laid("o0,0,9,0;n0,1,1,2;o1,0,50,0;o2,0,1,0;a2,3;o3,0,1,0;o4,0,0,0;a4,0,1;");
         due(16, "the sooner way though it is longer", two.soonest(0, 0), 11);
         due(16, "any number at once", two.soonest(0, 4), 50);
     }
 
     private static void plans() {
-        PaperRings x = new PaperRings();
+        Counted x = new Counted();
         for (int i = 1; i <= 12; i++) {
             due(17, "plan(1, 11)", x.plan(1, 11), i);
         }
@@ -483,21 +483,21 @@ public final class PromisesTest {
         due(17, "room again", x.plan(1, 0), 1);
     }
 
-    private static void planned(PaperRings x, int person, int... papers) {
+    private static void planned(Counted x, int person, int... papers) {
         x.noPlan(person);
         for (int paper : papers) {
             x.plan(person, paper);
         }
     }
 
-    private static void judged(String told, PaperRings x, int person, int... want) {
+    private static void judged(String told, Counted x, int person, int... want) {
         for (int what = 0; what < 4; what++) {
             due(19, told + ", judge " + what, x.judge(person, what), want[what]);
         }
     }
 
     private static void judging() {
-        PaperRings x = laid("o0,1,0,3;o1,10,2,0;o2,100,1,0;a2,0;h2,9;g2,3;o4,5,99,1;o5,0,0,0;a5,4;");
+        Counted x = laid("o0,1,0,3;o1,10,2,0;o2,100,1,0;a2,0;h2,9;g2,3;o4,5,99,1;o5,0,0,0;a5,4;");
         judged("an empty plan", x, 0, NONE, NONE, 0, 0);
         x.person(0, 0, 3);
         x.person(3, 512, 0);
@@ -528,12 +528,12 @@ public final class PromisesTest {
         due(19, "person", x.judge(-1, 0), BAD);
         planned(x, 1, 4, 4, 4, 4, 4, 4, 4, 4, 4, 4, 4, 4);
         judged("beyond DAY 999", x, 1, NONE, NONE, 1188, 60);
-        PaperRings late = laid("o0,0,0,0;" + times("g0,0;", 40) + "g0,1;");
+        Counted late = laid("o0,0,0,0;" + times("g0,0;", 40) + "g0,1;");
         late.plan(0, 0);
         due(19, "a NEED behind ITEM 31", late.judge(0, 1), 41);
     }
 
-    private static void mended(String told, PaperRings x, int persons, int paper, int... items) {
+    private static void mended(String told, Counted x, int persons, int paper, int... items) {
         due(20, told + ", how many", x.mend(persons, paper, -1), items.length);
         for (int i = 0; i < items.length; i++) {
             due(20, told + ", the " + i + "-th", x.mend(persons, paper, i), items[i]);
@@ -542,7 +542,7 @@ public final class PromisesTest {
     }
 
     private static void mending() {
-        PaperRings x = laid("o0,0,0,0;g0,1;g0,2;g0,3;g0,4;o1,0,0,0;a1,2,3;o4,0,0,0;n4,3,5,6,7;h4,8;o9,0,0,0;a9,9;o10,0,0,0;a10,0;");
+        Counted x = laid("o0,0,0,0;g0,1;g0,2;g0,3;g0,4;o1,0,0,0;a1,2,3;o4,0,0,0;n4,3,5,6,7;h4,8;o9,0,0,0;a9,9;o10,0,0,0;a10,0;");
         due(20, "four changes", x.mend(1, 0, -1), NONE);
         x.person(0, 0, 1);
         mended("three g", x, 1, 0, 2, 3, 4);
@@ -574,29 +574,29 @@ public final class PromisesTest {
     }
 
     private static void mendingLowest() {
-        PaperRings x = laid("o0,0,0,0;n0,1,1,2;o1,0,0,0;g1,9;o2,0,0,0;g2,9;");
+        Counted x = laid("o0,0,0,0;n0,1,1,2;o1,0,0,0;g1,9;o2,0,0,0;g2,9;");
         mended("the lowest of three rivals", x, 15, 0, 1);
-        PaperRings late = laid("o1,0,0,0;g1,9;o0,0,0,0;n0,1,1,2;o2,0,0,0;g2,9;");
+        Counted late = laid("o1,0,0,0;g1,9;o0,0,0,0;n0,1,1,2;o2,0,0,0;g2,9;");
         mended("the lowest of three rivals", late, 15, 0, 1);
-        PaperRings two = laid("o0,0,0,0;n0,2,1,2,3;o1,0,0,0;g1,9;o2,0,0,0;g2,9;o3,0,0,0;g3,9;");
+        Counted two = laid("o0,0,0,0;n0,2,1,2,3;o1,0,0,0;g1,9;o2,0,0,0;g2,9;o3,0,0,0;g3,9;");
         mended("the same one twice is lower than two", two, 1, 0, 1, 1);
-        PaperRings later = laid("o1,0,0,0;g1,9;o2,0,0,0;g2,9;o3,0,0,0;g3,9;o0,0,0,0;n0,2,1,2,3;");
+        Counted later = laid("o1,0,0,0;g1,9;o2,0,0,0;g2,9;o3,0,0,0;g3,9;o0,0,0,0;n0,2,1,2,3;");
         mended("the first, then the second", later, 1, 0, 1, 3);
-        PaperRings down = laid("o0,0,0,0;g0,9;a0,1;o1,0,0,0;g1,9;a1,2;o2,0,0,0;g2,9;");
+        Counted down = laid("o0,0,0,0;g0,9;a0,1;o1,0,0,0;g1,9;a1,2;o2,0,0,0;g2,9;");
         mended("by ITEMS, not by what opens first", down, 1, 0, 1, 4, 7);
-        PaperRings crowd = laid("o0,0,0,0;n0,1,1,2;o1,0,0,0;g1,9;h1,5;o2,0,0,0;a2,6,7;g0,3;");
+        Counted crowd = laid("o0,0,0,0;n0,1,1,2;o1,0,0,0;g1,9;h1,5;o2,0,0,0;a2,6,7;g0,3;");
         crowd.person(0, 64, 3);
         crowd.person(1, 128, 9);
         mended("one change for two", crowd, 3, 0, 1);
         crowd.person(2, 32, 0);
         mended("two for three", crowd, 7, 0, 1, 7);
-        PaperRings alone = laid("o0,0,0,0;o1,0,0,0;h1,0;");
+        Counted alone = laid("o0,0,0,0;o1,0,0,0;h1,0;");
         due(20, "reached together", alone.round(0, 1), 2);
         mended("by itself, others as at first", alone, 1, 1, 2);
     }
 
     private static void queueing() {
-        PaperRings x = laid("o0,0,0,0;c0,2;o1,0,3,0;o2,0,1,0;a2,1;o3,0,0,0;h3,9;");
+        Counted x = laid("o0,0,0,0;c0,2;o1,0,3,0;o2,0,1,0;a2,1;o3,0,0,0;h3,9;");
         for (int person = 0; person < 4; person++) {
             planned(x, person, 0);
         }
@@ -633,7 +633,7 @@ public final class PromisesTest {
     }
 
     private static void queueingLong() {
-        PaperRings x = laid("o0,0,99,0;o1,0,9,0;o2,0,10,0;o3,0,0,0;o4,0,1,1;o5,0,1,0;a5,4;");
+        Counted x = laid("o0,0,99,0;o1,0,9,0;o2,0,10,0;o3,0,0,0;o4,0,1,1;o5,0,1,0;a5,4;");
         planned(x, 0, 0, 0, 0, 0, 0, 0, 0, 0, 0, 0);
         due(21, "ten times 99", x.queue(1, 0), 990);
         x.plan(0, 1);
@@ -644,14 +644,14 @@ public final class PromisesTest {
         due(21, "DAY 1000", x.queue(1, 0), NONE);
         planned(x, 1, 4, 1, 5);
         due(21, "nothing lapses", x.queue(2, 1), 11);
-        PaperRings lend = laid("o0,0,0,0;o1,0,0,0;h1,0;");
+        Counted lend = laid("o0,0,0,0;o1,0,0,0;h1,0;");
         planned(lend, 0, 0);
         planned(lend, 1, 1);
         due(21, "others as at first", lend.queue(3, 1), NONE);
     }
 
     private static void keeping() {
-        PaperRings x = laid("o0,1,0,0;");
+        Counted x = laid("o0,1,0,0;");
         x.person(0, 2, 10);
         x.plan(0, 0);
         due(22, "keep()", x.keep(), 1);
@@ -688,7 +688,7 @@ public final class PromisesTest {
     }
 
     private static void counting() {
-        PaperRings x = laid("o0,0,0,0;a0,1;c0,1;o1,0,0,0;");
+        Counted x = laid("o0,0,0,0;a0,1;c0,1;o1,0,0,0;");
         x.write(3, 0);
         x.plan(1, 0);
         x.plan(2, 0);
@@ -704,7 +704,7 @@ public final class PromisesTest {
 
     private static void wildNumbers() {
         int[] wild = {Integer.MIN_VALUE, Integer.MIN_VALUE + 1, -4097, -33, -2, 32, 33, 4096, 65536, Integer.MAX_VALUE};
-        PaperRings x = laid("o0,0,0,0;a0,1;");
+        Counted x = laid("o0,0,0,0;a0,1;");
         for (int n : wild) {
             due(2, "person", x.person(n, 0, 0) + x.person(0, Math.max(n, 4096), 0) + x.person(0, 0, Math.max(n, 121)), 3 * BAD);
             due(3, "write", x.write(n, n), BAD);
