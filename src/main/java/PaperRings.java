@@ -11,6 +11,8 @@ public final class PaperRings {
     private static final int LONGEST_PLAN = 12;
     private static final int MOST_KEPT = 2;
     private static final int LAST_DAY = 999;
+    /** Later than any day: twelve papers take 12 times 99 days, and are good for 999 more. */
+    private static final int FAR_DAY = 1000000;
     private static final int MOST_CHANGES = 3;
 
     private final Text text = new Text();
@@ -1017,7 +1019,7 @@ public final class PaperRings {
         }
 
         private int nextDay(int waiting) {
-            int day = Integer.MAX_VALUE;
+            int day = FAR_DAY;
             for (int paper = 0; paper < PAPERS; paper++) {
                 if (holds(waiting, paper)) {
                     day = Math.min(day, comes[paper]);
@@ -1039,7 +1041,6 @@ public final class PaperRings {
 
     /** A plan looked at counter by counter. */
     private static final class Hearing {
-        private static final int FOR_EVER = Integer.MAX_VALUE;
         private static final int NOT_HAD = -1;
 
         int counter;
@@ -1071,7 +1072,7 @@ public final class PaperRings {
             day = 0;
             fees = 0;
             for (int paper = 0; paper < PAPERS; paper++) {
-                lastGood[paper] = holds(set, paper) ? FOR_EVER : NOT_HAD;
+                lastGood[paper] = holds(set, paper) ? FAR_DAY : NOT_HAD;
             }
         }
 
@@ -1088,7 +1089,7 @@ public final class PaperRings {
         private void take(Rules rules, int paper) {
             day += rules.days[paper];
             fees += rules.fee[paper];
-            int until = rules.good[paper] == 0 ? FOR_EVER : day + rules.good[paper] - 1;
+            int until = rules.good[paper] == 0 ? FAR_DAY : day + rules.good[paper] - 1;
             // One that was had at first stays good for ever, though it is got again.
             lastGood[paper] = Math.max(lastGood[paper], until);
         }

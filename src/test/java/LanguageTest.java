@@ -93,7 +93,7 @@ public final class LanguageTest {
         }
         Matcher library = Pattern.compile("\\b(Integer|Long|Math|System|String|Arrays)\\.(\\w+)").matcher(plain);
         while (library.find()) {
-            must(Set.of("Integer.bitCount", "Integer.MAX_VALUE", "Math.max", "Math.min", "System.arraycopy")
+            must(Set.of("Integer.bitCount", "Math.max", "Math.min", "System.arraycopy")
                 .contains(library.group()), "the library: " + library.group());
         }
         List<String> lines = new ArrayList<>(List.of(source.split("\n")));

@@ -134,6 +134,15 @@ public final class PlansEdgesTest extends Checks {
         }
     }
 
+    static void promise16_whatIsHadAtFirstCountsAmongK() {
+        Counted x = laid("o0,0,1,0;n0,2,1,2,3;o1,0,30,0;o2,0,20,0;o3,0,10,0;");
+        due("none had", x.soonest(0, 0), 21);
+        x.person(0, 2, 0);
+        due("K less 1 had", x.soonest(0, 0), 11);
+        x.person(0, 2 + 4, 0);
+        due("K had", x.soonest(0, 0), 1);
+    }
+
     static void promise16_ofAllTheLastCounts() {
         Counted x = laid("o0,0,5,0;a0,1,2;a0,3;o1,0,7,0;o2,0,9,0;o3,0,8,0;");
         due("the last of three", x.soonest(0, 0), 14);
@@ -392,6 +401,16 @@ public final class PlansEdgesTest extends Checks {
         judgedIs("got again", x, 0, NONE, NONE, 5, 2);
     }
 
+    static void promise19_aLapsedOneIsNoneOfK() {
+        Counted x = laid("o0,0,0,1;o1,0,1,1;o2,0,0,0;n2,2,0,1,3;");
+        planned(x, 0, 1, 0, 2);
+        judgedIs("both good", x, 0, NONE, NONE, 1, 0);
+        planned(x, 0, 0, 1, 2);
+        judgedIs("0 has lapsed", x, 0, 2, 3, NONE, NONE);
+        x.person(0, 8, 0);
+        judgedIs("3 is had at first in its place", x, 0, NONE, NONE, 1, 0);
+    }
+
     static void promise19_othersHaveWhatTheyHaveAtFirst() {
         Counted x = laid("o0,0,0,0;o1,0,0,0;h1,0;");
         planned(x, 0, 0, 1);
@@ -486,6 +505,16 @@ public final class PlansEdgesTest extends Checks {
         mendedIs("five of six had", x, 1, 0, 1);
         notMended("an a of one paper", laid("o0,0,0,0;a0,1;"), 1, 0);
         notMended("an a of itself", laid("o0,0,0,0;a0,0;"), 1, 0);
+    }
+
+    static void promise20_anAThatIsN1StillNeedsOne() {
+        Counted x = laid("o0,0,0,0;a0,1,2;");
+        x.person(0, 2, 0);
+        x.person(1, 4, 0);
+        mendedIs("each has one of two", x, 3, 0, 1);
+        notMended("a third has none", x, 7, 0);
+        x.person(2, 6, 0);
+        mendedIs("a third has both", x, 7, 0, 1);
     }
 
     static void promise20_aGAndAnHGo() {
@@ -745,7 +774,7 @@ public final class PlansEdgesTest extends Checks {
         planned(x, 3, 0);
         x.keep();
         x.layOther("o0,1,1,1;g0,99;c0,3;");
-        x.person(3, 0, 99);
+        x.person(3, 0, 9);
         planned(x, 3, 7, 7);
         x.restore();
         int[] want = {5, 5, 5, 1, 1};
@@ -782,6 +811,22 @@ public final class PlansEdgesTest extends Checks {
         due("the last one", x.reach(1), 8);
         due("none is left", x.restore(), 0);
         due("the first one", x.reach(1), 0);
+    }
+
+    static void promise23_whatIsRestoredIsLookedAtAnew() {
+        Counted x = laid("o0,1,0,0;g0,10;");
+        x.person(0, 0, 10);
+        x.keep();
+        x.layOther("o0,1,0,0;a0,0;");
+        x.person(0, 0, 9);
+        due("a RING", x.ring(0, -1), 1);
+        due("CHEAPEST", x.cheapest(0, 0, 0), NONE);
+        x.restore();
+        due("no RING", x.ring(0, -1), NONE);
+        due("CHEAPEST", x.cheapest(0, 0, 0), 1);
+        due("SOONEST", x.soonest(0, 0), 0);
+        x.person(0, 0, 9);
+        due("a year younger", x.cheapest(0, 0, 0), NONE);
     }
 
     static void promise23_theTextIsNotKept() {

@@ -381,6 +381,42 @@ public final class ReachedEdgesTest extends Checks {
         openedIs("itself or what gives it", laid(TWELVE + chain(12) + "g0,1;"), 0, 11, 1, 11);
     }
 
+    /** The set, how many papers and how many sets by trying all, where paper 0 needs three of each of these. */
+    private static int[] triedOut(int... masks) {
+        int[] found = {0, 99, 0};
+        for (int gift = 0; gift <= ALL; gift += 2) {
+            boolean opens = true;
+            for (int mask : masks) {
+                opens &= Integer.bitCount(gift & mask) >= 3;
+            }
+            int many = Integer.bitCount(gift);
+            if (opens && many < found[1]) {
+                found = new int[] {gift, many, 0};
+            }
+            if (opens && many == found[1]) {
+                found[2]++;
+            }
+        }
+        return found;
+    }
+
+    private static int setOf(int... papers) {
+        int set = 0;
+        for (int paper : papers) {
+            set |= 1 << paper;
+        }
+        return set;
+    }
+
+    static void promise14_manyNeedsThatCross() {
+        Counted x = laid("o0,0,0,0;n0,3,1,2,3,4,5,6;n0,3,4,5,6,7,8,9;n0,3,6,7,8,9,10,11;n0,3,1,2,7,8,10,11;n0,3,1,3,5,7,9,11;"
+            + "n0,3,2,4,6,8,10,11;n0,3,1,4,5,8,9,10;n0,3,2,3,6,7,10,11;");
+        int[] want = triedOut(setOf(1, 2, 3, 4, 5, 6), setOf(4, 5, 6, 7, 8, 9), setOf(6, 7, 8, 9, 10, 11),
+            setOf(1, 2, 7, 8, 10, 11), setOf(1, 3, 5, 7, 9, 11), setOf(2, 4, 6, 8, 10, 11), setOf(1, 4, 5, 8, 9, 10),
+            setOf(2, 3, 6, 7, 10, 11));
+        openedIs("eight NEEDS", x, 0, 0, want[0], want[2]);
+    }
+
     static void promise14_besidesWhatItHas() {
         Counted x = laid("o0,0,0,0;n0,3,1,2,3,4;");
         openedIs("three of four", x, 0, 0, 2 + 4 + 8, 4);
