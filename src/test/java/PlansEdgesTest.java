@@ -537,6 +537,21 @@ public final class PlansEdgesTest extends Checks {
             laid("o1,0,0,0;g1,9;g1,8;o2,0,0,0;g2,9;o0,0,0,0;n0,1,1,2;"), 1, 0, 4);
     }
 
+    static void promise20_theFewestThoughOtherNeedsHold() {
+        for (String holding : new String[] {"g1,0;", "a1,2;", "n1,1,2,3;", "h1,2;"}) {
+            Counted x = laid("o1,0,0,0;g1,9;g1,8;" + holding + "o0,0,0,0;n0,1,1;");
+            x.person(0, 4 + 8, 0);
+            x.person(1, 4, 0);
+            mendedIs("one ahead of two beside " + holding, x, 1, 0, 5);
+        }
+    }
+
+    static void promise20_theLongestWay() {
+        mendedIs("a chain of twelve", laid(TWELVE + chain(12)), 15, 11);
+        mendedIs("a chain of twelve behind a g", laid(TWELVE + "g0,1;" + chain(12)), 15, 11, 12);
+        mendedIs("with a g at both ends", laid(TWELVE + "g0,1;g11,1;" + chain(12)), 15, 11, 12, 13);
+    }
+
     static void promise20_theSameItemsServeAllPersons() {
         Counted x = laid("o0,0,0,0;g0,10;g0,20;g0,30;g0,40;");
         x.person(0, 0, 30);

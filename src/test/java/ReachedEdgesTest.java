@@ -237,6 +237,13 @@ public final class ReachedEdgesTest extends Checks {
         ringIs("one more is needed", two, 0, 0, 1);
     }
 
+    static void promise12_nothingIsLeftOfTheLastText() {
+        Counted x = laid("o0,0,0,0;g0,1;a0,0;");
+        ringIs("0 by itself", x, 0, 0);
+        due("lay()", x.layOther("o0,0,0,0;g0,1;"), 2);
+        noRing("its a is gone", x, 0);
+    }
+
     static void promise12_whatIsReachedIsInNoRing() {
         ringIs("0 is reached", laid("o0,0,0,0;o1,0,0,0;o2,0,0,0;a1,0,2;a2,0,1;"), 0, 1, 2);
     }
@@ -298,6 +305,16 @@ public final class ReachedEdgesTest extends Checks {
         Counted x = laid("o0,0,0,0;h0,1;o1,0,0,0;h1,2;");
         x.person(0, 1 + 4, 0);
         due("the other gets 1 by the 2 that is lent", x.back(0), 4);
+    }
+
+    /** One goes up all papers but the last, lends, and all others must go up behind it before they lend in turn. */
+    private static final String FORTH_AND_BACK = TWELVE + chain(11) + "h0,10;h11,10;";
+
+    static void promise13_aLongWayForthAndBack() {
+        Counted x = laid(FORTH_AND_BACK);
+        x.person(0, 1, 0);
+        due("11 comes last", x.round(0, 11), 22);
+        due("each comes again", x.back(0), 0);
     }
 
     // ---- promise 14: opened
@@ -431,6 +448,20 @@ public final class ReachedEdgesTest extends Checks {
     static void promise14_othersGetPapersToo() {
         openedIs("given to lend", laid("o0,0,0,0;h0,1;o1,0,0,0;h1,2;"), 0, 0, 4, 1);
         shut("what is given to it is no other's", laid("o0,0,0,0;h0,1;"), 0, 0);
+    }
+
+    static void promise14_aLongWayForthAndBack() {
+        openedIs("by any of the others", laid(FORTH_AND_BACK), 0, 11, 1, 11);
+    }
+
+    static void promise14_eachQuestionStandsByItself() {
+        Counted x = laid("o0,0,0,0;a0,1,2;o3,0,0,0;a3,1;");
+        openedIs("two", x, 0, 0, 2 + 4, 1);
+        openedIs("one", x, 0, 3, 2, 1);
+        openedIs("two again", x, 0, 0, 2 + 4, 1);
+        x.person(1, 1 + 2 + 4, 0);
+        openedIs("another has both", x, 1, 0, 0, 1);
+        openedIs("this one has not", x, 0, 0, 2 + 4, 1);
     }
 
     static void promise14_nothingIsGivenInTruth() {
