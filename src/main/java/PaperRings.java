@@ -26,7 +26,7 @@ public final class PaperRings {
     private final Purse purse = new Purse();
     private final Dates dates = new Dates();
     private final Hearing hearing = new Hearing();
-    private final Mender mender = new Mender(now);
+    private final Mender mender = new Mender();
     private final Queues queues = new Queues();
 
     public PaperRings() {
@@ -225,8 +225,8 @@ public final class PaperRings {
         if (!isCrowd(persons) || !isPaper(paper) || i < -1) {
             return BAD;
         }
-        mender.begin(persons, paper);
-        Mender.search(mender, 0);
+        mender.begin(now.rules, persons, paper);
+        Mender.search(mender, now, 0);
         if (!mender.found || i >= mender.most) {
             return NONE;
         }
@@ -1105,7 +1105,6 @@ public final class PaperRings {
         final int[] best = new int[MOST_CHANGES];
         private final int[] changed = new int[MOST_CHANGES];
         private final int[] sorted = new int[MOST_CHANGES];
-        private final State state;
         private int changes;
         private int persons;
         private int wanted;
@@ -1113,21 +1112,17 @@ public final class PaperRings {
         private int outside;
         private int comesTo;
 
-        Mender(State rulesAndPersons) {
-            state = rulesAndPersons;
-        }
-
-        void begin(int crowd, int paper) {
+        void begin(Rules rules, int crowd, int paper) {
             persons = crowd;
             wanted = paper;
-            matters = state.rules.tiedTo(paper, false) & state.rules.offices;
+            matters = rules.tiedTo(paper, false) & rules.offices;
             found = false;
             most = MOST_CHANGES;
             changes = 0;
         }
 
-        private static void search(Mender mender, int depth) {
-            if (!mender.findOutside()) {
+        private static void search(Mender mender, State state, int depth) {
+            if (!mender.findOutside(state)) {
                 mender.record();
                 return;
             }
@@ -1138,15 +1133,15 @@ public final class PaperRings {
             int has = mender.comesTo;
             for (int paper = 0; paper < PAPERS; paper++) {
                 int before = mender.changes;
-                if (holds(mender.matters & ~has, paper) && mender.change(person, has, paper)) {
-                    search(mender, depth + 1);
-                    mender.undo(before);
+                if (holds(mender.matters & ~has, paper) && mender.change(state, person, has, paper)) {
+                    search(mender, state, depth + 1);
+                    mender.undo(state.rules, before);
                 }
             }
         }
 
         /** Looks for one of the persons that does not come to the paper. */
-        private boolean findOutside() {
+        private boolean findOutside(State state) {
             for (int person = 0; person < PERSONS; person++) {
                 if (holds(persons, person)) {
                     int has = state.alone(person, wanted);
@@ -1161,7 +1156,7 @@ public final class PaperRings {
         }
 
         /** Changes what one with a set lacks for a paper; false, and nothing changed, if that is too much. */
-        private boolean change(int person, int has, int paper) {
+        private boolean change(State state, int person, int has, int paper) {
             Rules rules = state.rules;
             int age = state.ages[person];
             int lent = state.lentTo(person);
@@ -1170,24 +1165,24 @@ public final class PaperRings {
             }
             for (int need = 0; need < rules.needs; need++) {
                 if (rules.owner[need] == paper) {
-                    changeNeed(need, rules.shortage(need, has, age, lent));
+                    changeNeed(rules, need, rules.shortage(need, has, age, lent));
                 }
             }
             return true;
         }
 
-        private void changeNeed(int need, int times) {
+        private void changeNeed(Rules rules, int need, int times) {
             for (int i = 0; i < times && changes < MOST_CHANGES; i++) {
-                state.rules.eased[need]++;
+                rules.eased[need]++;
                 changed[changes] = need;
                 changes++;
             }
         }
 
-        private void undo(int before) {
+        private void undo(Rules rules, int before) {
             while (changes > before && changes > 0) {
                 changes--;
-                state.rules.eased[changed[changes]]--;
+                rules.eased[changed[changes]]--;
             }
         }
 

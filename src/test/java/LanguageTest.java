@@ -85,8 +85,20 @@ public final class LanguageTest {
         }
     }
 
+    private static String withoutRemarks(String source) {
+        return source.replaceAll("(?s)/\\*.*?\\*/", "").replaceAll("//[^\n]*", "").replaceAll("'.'", "0");
+    }
+
+    /** Rule 12: while an object is made nothing of it is handed to another, so what is made inside it takes nothing. */
+    private static void makersTakeNothing(String source) {
+        Matcher made = Pattern.compile("\\bnew (\\w+)\\(([^)]*)\\)").matcher(withoutRemarks(source));
+        while (made.find()) {
+            must(made.group(2).isBlank(), "nothing is handed out while an object is made: " + made.group());
+        }
+    }
+
     private static void words(String source) {
-        String plain = source.replaceAll("(?s)/\\*.*?\\*/", "").replaceAll("//[^\n]*", "").replaceAll("'.'", "0");
+        String plain = withoutRemarks(source);
         for (String word : List.of("throw", "throws", "try", "catch", "synchronized", "assert", "import", "package", "->", "::",
             "System.out", "Exact", "Random", "Thread", "nanoTime", "currentTimeMillis", "float", "double", "char", "Object")) {
             must(!Pattern.compile("(?<![A-Za-z])" + Pattern.quote(word) + "(?![A-Za-z])").matcher(plain).find(), "without " + word);
@@ -169,6 +181,7 @@ public final class LanguageTest {
         Path source = Path.of(args.length > 0 ? args[0] : "src/main/java/PaperRings.java");
         face();
         words(Files.readString(source));
+        makersTakeNothing(Files.readString(source));
         calls();
         System.out.println(wrong == 0 ? "the face and the language are as told" : wrong + " rules are not kept");
         if (wrong != 0) {
